@@ -113,6 +113,13 @@ public final class PromisesTest {
     x.rent(4, 0);
     due("a rent struck: of all streets again", x.unit(1, 3, 3), 2);
     due("close fractions", closeFractions(), 1);
+    RateBook y = new RateBook();
+    y.house(0, 0, 0, 500, 1);
+    due("the least rent, above", y.unit(0, 0, 0), 1);
+    due("the least rent, below", y.unit(0, 0, 1), 500);
+    y.house(0, 0, 0, 1, 5);
+    y.house(0, 0, 0, 1, 4);
+    due("the first is the least", y.unit(0, 0, 3), 2);
     int[][] wrongOnes = {{-1, 0, 0}, {3, 0, 0}, {0, -1, 0}, {0, 6, 0}, {0, 0, -1}, {0, 0, 4}};
     for (int[] w : wrongOnes) due("a wrong unit", x.unit(w[0], w[1], w[2]), BAD);
   }
@@ -220,6 +227,9 @@ public final class PromisesTest {
     due("a full one is not like", x.appeal(2, 30, 1, true), 1);
     x.strike(1);
     due("again", x.appeal(0, 30, 1, true), 2);
+    for (int i = 0; i < 12; i++) x.event(0, 30, 0, 1);
+    x.strike(1);
+    due("the first of those like is full", x.appeal(1, 30, 1, true), FULL);
   }
 
   private static void strike() {
@@ -323,25 +333,25 @@ public final class PromisesTest {
 
   private static void onCounts() {
     RateBook x = new RateBook();
-    x.house(0, 0, 0, 1, 9);
+    x.house(0, 0, 0, 1, 19);
     x.list(0);
-    due("full", x.on(0, 0, 3), 9);
+    due("full", x.on(0, 0, 3), 19);
     x.event(0, 100, 1, 2);
-    due("half, cut", x.on(0, 100, 3), 4);
+    due("half, cut", x.on(0, 100, 3), 9);
     x.event(0, 200, 1, 3);
-    due("charity, cut", x.on(0, 200, 3), 1);
+    due("charity, cut", x.on(0, 200, 3), 3);
     x.event(0, 300, 1, 1);
     due("empty, first day", x.on(0, 300, 3), 0);
     due("empty, last day", x.on(0, 389, 3), 0);
-    due("empty, half", x.on(0, 390, 3), 4);
+    due("empty, half", x.on(0, 390, 3), 9);
     x.event(0, 350, 1, 1);
     due("empty anew", x.on(0, 439, 3), 0);
-    due("empty anew, half", x.on(0, 440, 3), 4);
+    due("empty anew, half", x.on(0, 440, 3), 9);
     x.event(0, 400, 0, 2);
-    due("a size doesn't begin it anew", x.on(0, 440, 3), 9);
+    due("a size doesn't begin it anew", x.on(0, 440, 3), 19);
     x.event(0, 420, 1, 0);
-    due("full again", x.on(0, 420, 3), 18);
-    due("worth is not touched", x.on(0, 300, 2), 9);
+    due("full again", x.on(0, 420, 3), 38);
+    due("worth is not touched", x.on(0, 300, 2), 19);
   }
 
   private static void onRelief() {
@@ -594,6 +604,8 @@ public final class PromisesTest {
     due("ward 3 paid", x.ward(3, 0, 1), 10);
     due("ward 2 paid", x.ward(2, 0, 1), 0);
     due("another year", x.ward(0, 1, 1), NO);
+    x.pay(0, 0, 100);
+    due("what the first paid", x.ward(0, 0, 1), 107);
   }
 
   private static void count() {
