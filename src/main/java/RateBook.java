@@ -467,16 +467,15 @@ public final class RateBook {
             if (told <= 0) {
                 return;
             }
-            int kept = 0;
+            boolean closesUp = false;
             for (int i = 0; i < byDay.length; i++) {
                 Event its = byDay[i];
-                byDay[i] = null;
-                if (its != null && its.number != told - 1) {
-                    byDay[kept] = its;
-                    kept++;
+                closesUp = closesUp || (its != null && its.number == told - 1);
+                if (closesUp) {
+                    byDay[i] = i + 1 < byDay.length ? byDay[i + 1] : null;
                 }
             }
-            told = kept;
+            told--;
         }
 
         Event latestOf(int kind, int day) {

@@ -28,7 +28,7 @@ public final class CallEdgesTest {
     listNumber(); listOfThatDay();
     eventNumber();
     appealOne(); appealLike(); appealLikeFull(); appealAloneFull(); appealGot();
-    strikeLatestTold(); strikeLeft(); strikeNone();
+    strikeLatestTold(); strikeLeft(); strikeOfTwelve(); strikeNone();
     onWhat(); onList();
     yearOfTheHouse(); billAsThingsAre(); poundageAsThingsAre();
     struckPoundage(); struckNone();
@@ -390,6 +390,30 @@ public final class CallEdgesTest {
     for (int i = 0; i < 12; i++) x.event(0, 100 - i, i % 3, 1);
     for (int left = 11; left >= 0; left--) due("left", x.strike(0), left);
     due("none", x.strike(0), NO);
+  }
+
+  private static void strikeOfTwelve() {
+    sentence("strike: The latest EVENT told goes: of one with 12 EVENTS");
+    int[] latest = {0, 55, 3649};
+    for (int day : latest) {
+      RateBook x = one(100, 0);
+      for (int i = 0; i < 11; i++) x.event(0, 10 * i, 0, 200 + i);
+      x.event(0, day, 2, 500);
+      due("11 are left", x.strike(0), 11);
+      for (int i = 0; i < 11; i++) due("its worth on " + 10 * i, x.on(0, 10 * i, 2), 2000 + 10 * i);
+      due("its worth on the last day", x.on(0, 3649, 2), 2100);
+      due("a 12th again", x.event(0, 100, 0, 300), 12);
+      due("it counts", x.on(0, 100, 0), 300);
+      due("a 13th", x.event(0, 100, 0, 300), FULL);
+    }
+    RateBook y = one(100, 0);
+    for (int i = 0; i < 12; i++) y.event(0, 12 - i, 0, 100 + i);
+    for (int left = 11; left >= 0; left--) {
+      due("left", y.strike(0), left);
+      due("the last day", y.on(0, 3649, 0), 100);
+      due("the first of those left", y.on(0, 12 - left, 0), 100);
+      if (left > 0) due("the first by day", y.on(0, 13 - left, 0), 100 + left - 1);
+    }
   }
 
   private static void strikeNone() {
